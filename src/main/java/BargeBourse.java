@@ -181,7 +181,15 @@ public final class BargeBourse {
             return NONE;
         }
         for (int i = 0; i < n; i++) {
-            passHour();
+            hour++;
+            if (isCallHour()) {
+                for (int t = 0; t < TOWNS; t++) {
+                    holdCall(halls[t]);
+                }
+            }
+            for (int s = 0; s < barges.size(); s++) {
+                moveOn(barges.get(s));
+            }
         }
         return hour;
     }
@@ -287,7 +295,7 @@ public final class BargeBourse {
     }
 
     private static boolean areTwoTowns(int a, int b) {
-        return isTown(a) && isTown(b) && a != b;
+        return a >= 0 && a < TOWNS && b >= 0 && b < TOWNS && a != b;
     }
 
     private static int dividedUp(int amount, int by) {
@@ -325,18 +333,6 @@ public final class BargeBourse {
             sum += halls[t].signed.size();
         }
         return sum;
-    }
-
-    private void passHour() {
-        hour++;
-        if (isCallHour()) {
-            for (int t = 0; t < TOWNS; t++) {
-                holdCall(halls[t]);
-            }
-        }
-        for (int s = 0; s < barges.size(); s++) {
-            moveOn(barges.get(s));
-        }
     }
 
     private boolean isCallHour() {
@@ -381,7 +377,6 @@ public final class BargeBourse {
         waters.seekWay(barge, cargo);
         barge.keepWay(waters.found, waters.foundLength);
         barge.load = cargo;
-        barge.waited = 0;
         barge.state = LOADING;
         barge.left = handlingHours(cargo);
         cargo.state = ON_BARGE;
@@ -406,7 +401,7 @@ public final class BargeBourse {
                 }
                 break;
             case AWAITING_CANAL:
-                tryCanal(barge);
+                enterCanal(barge);
                 break;
             case SAILING:
                 if (barge.endsHour()) {
@@ -414,7 +409,7 @@ public final class BargeBourse {
                 }
                 break;
             case AWAITING_BERTH:
-                tryBerth(barge, load);
+                enterBerth(barge, load);
                 break;
             case UNLOADING:
                 if (barge.endsHour()) {
@@ -426,7 +421,7 @@ public final class BargeBourse {
         }
     }
 
-    private void tryCanal(Barge barge) {
+    private void enterCanal(Barge barge) {
         int c = barge.nextCanal();
         if (!waters.hasCanal(c)) {
             return;
@@ -446,7 +441,7 @@ public final class BargeBourse {
         barge.state = barge.nextCanal() == NONE ? AWAITING_BERTH : AWAITING_CANAL;
     }
 
-    private void tryBerth(Barge barge, Cargo load) {
+    private void enterBerth(Barge barge, Cargo load) {
         if (isTown(load.to) && unloadingAt(load.to) < halls[load.to].berths) {
             barge.state = UNLOADING;
             barge.left = handlingHours(load);
@@ -483,6 +478,9 @@ public final class BargeBourse {
     }
 
     private long bestSharing(Hall hall) {
+        if (hall.waiting.isEmpty() || hall.signed.isEmpty()) {
+            return 0;
+        }
         sharing.begin();
         for (int i = 0; i < hall.waiting.size() && i < Sharing.MOST_SHARED; i++) {
             Cargo cargo = hall.waiting.get(i);
@@ -610,7 +608,7 @@ public final class BargeBourse {
 
         private int letterAt(Tape tape, int n) {
             int sign = place < n ? tape.at(place) : NONE;
-            for (int i = 0; i < CLAUSES; i++) {
+            for (int i = 0; i < LETTERS.length(); i++) {
                 if (LETTERS.charAt(i) == sign) {
                     return i;
                 }

@@ -15,6 +15,7 @@ public final class WatersTest {
         whoCan();
         ways();
         waysAreOfTheCargosTown();
+        wayAskedAlone();
         CHECK.end();
     }
 
@@ -230,5 +231,20 @@ public final class WatersTest {
         x.cargo(7, 0, 600, 2, 1);
         CHECK.dueWay(x, 0, 0, 420, 0, 1, 2, 3, 4, 5, 6);
         CHECK.dueWay(x, 0, 1, 420, 6, 5, 4, 3, 2, 1, 0);
+    }
+
+    private static void wayAskedAlone() {
+        BargeBourse x = new BargeBourse();
+        x.canal(0, 1, 1, 100, 0);
+        x.canal(1, 2, 1, 100, 0);
+        x.skipper(10, 10, 10, 1);
+        x.cargo(0, 1, 10, 0, 0);
+        x.cargo(0, 2, 10, 0, 0);
+        x.cargo(0, 1, 11, 0, 0);
+        CHECK.due("way(0, 1, 1)", x.way(0, 1, 1), 1);
+        CHECK.due("way(0, 0, 1)", x.way(0, 0, 1), NONE);
+        CHECK.due("way(0, 0, 0)", x.way(0, 0, 0), 0);
+        CHECK.due("way(0, 2, 0)", x.way(0, 2, 0), NONE);
+        CHECK.due("way(0, 1, 0)", x.way(0, 1, 0), 0);
     }
 }
