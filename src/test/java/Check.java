@@ -1,4 +1,6 @@
 import java.nio.charset.StandardCharsets;
+import java.util.function.IntPredicate;
+import java.util.function.IntToLongFunction;
 
 /** Counts the answers that are not as due and tells them. */
 final class Check {
@@ -20,6 +22,23 @@ final class Check {
 
     void due(String call, boolean got, boolean want) {
         due(call, got ? 1L : 0L, want ? 1L : 0L);
+    }
+
+    /**
+     * One argument of a call: good is due for the first and the last number that it may be, bad for
+     * the numbers beside these and for the least and the greatest int.
+     */
+    void dueRange(String name, int least, int most, long good, long bad, IntToLongFunction call) {
+        for (int n : new int[] {least, most}) {
+            due(name + " " + n, call.applyAsLong(n), good);
+        }
+        for (int n : new int[] {least - 1, most + 1, Integer.MIN_VALUE, Integer.MAX_VALUE}) {
+            due(name + " " + n, call.applyAsLong(n), bad);
+        }
+    }
+
+    void dueRange(String name, int least, int most, IntPredicate call) {
+        dueRange(name, least, most, 1, 0, n -> call.test(n) ? 1 : 0);
     }
 
     /** What look(s, 0..9) is to answer, in this order. */

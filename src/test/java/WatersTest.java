@@ -1,4 +1,4 @@
-/** Promises 5 to 9 and 12 (what is refused), 16 and 17 (who can carry what, and by which way). */
+/** Promises 16 and 17: who can carry what, and by which way. */
 public final class WatersTest {
     private static final int NONE = BargeBourse.NONE;
     private static final int MAX = Integer.MAX_VALUE;
@@ -6,153 +6,19 @@ public final class WatersTest {
     private static final Check CHECK = new Check("WatersTest");
 
     public static void main(String[] args) {
-        towns();
-        canals();
-        depths();
-        skippers();
-        wants();
-        cargoes();
         whoCan();
         ways();
         waysAreOfTheCargosTown();
         wayAskedAlone();
+        canOfSkippersAndCargoes();
+        noWay();
+        tonsNotAboveTheHold();
+        depthNotBelowTheDraught();
+        placesOfTheShortestAndTheLongestWay();
+        likeWays();
+        whereverTheSkipperIs();
+        fullWaters();
         CHECK.end();
-    }
-
-    private static void towns() {
-        BargeBourse x = new BargeBourse();
-        for (int t : new int[] {-1, 8, MAX, MIN}) {
-            CHECK.due("town(" + t + ", 1)", x.town(t, 1), false);
-        }
-        for (int berths : new int[] {0, 5, -1, MAX, MIN}) {
-            CHECK.due("town(0, " + berths + ")", x.town(0, berths), false);
-        }
-        for (int t = 0; t < 8; t++) {
-            for (int berths = 1; berths <= 4; berths++) {
-                CHECK.due("town(" + t + ", " + berths + ")", x.town(t, berths), true);
-            }
-        }
-    }
-
-    private static void canals() {
-        BargeBourse x = new BargeBourse();
-        CHECK.due("a = b", x.canal(3, 3, 1, 1, 0), NONE);
-        CHECK.due("a -1", x.canal(-1, 3, 1, 1, 0), NONE);
-        CHECK.due("b 8", x.canal(3, 8, 1, 1, 0), NONE);
-        CHECK.due("a 8", x.canal(8, 3, 1, 1, 0), NONE);
-        CHECK.due("b min", x.canal(3, MIN, 1, 1, 0), NONE);
-        CHECK.due("hours 0", x.canal(0, 7, 0, 1, 0), NONE);
-        CHECK.due("hours 49", x.canal(0, 7, 49, 1, 0), NONE);
-        CHECK.due("depth -1", x.canal(0, 7, 1, -1, 0), NONE);
-        CHECK.due("depth 501", x.canal(0, 7, 1, 501, 0), NONE);
-        CHECK.due("lock -1", x.canal(0, 7, 1, 1, -1), NONE);
-        CHECK.due("lock 13", x.canal(0, 7, 1, 1, 13), NONE);
-        CHECK.due("none is there", x.count(1), 0);
-        CHECK.due("the least", x.canal(0, 7, 1, 0, 0), 0);
-        CHECK.due("the most", x.canal(7, 0, 48, 500, 12), 1);
-        for (int c = 2; c < 12; c++) {
-            CHECK.due("like ones", x.canal(0, 7, 1, 0, 0), c);
-        }
-        CHECK.due("a thirteenth", x.canal(0, 1, 1, 1, 0), NONE);
-        CHECK.due("count(1)", x.count(1), 12);
-    }
-
-    private static void depths() {
-        BargeBourse x = new BargeBourse();
-        CHECK.due("no canal", x.depth(0, 100), false);
-        x.canal(0, 1, 1, 100, 0);
-        for (int c : new int[] {-1, 1, 12, MAX, MIN}) {
-            CHECK.due("depth(" + c + ", 100)", x.depth(c, 100), false);
-        }
-        for (int cm : new int[] {-1, 501, MAX, MIN}) {
-            CHECK.due("depth(0, " + cm + ")", x.depth(0, cm), false);
-        }
-        x.skipper(600, 300, 3, 1);
-        x.cargo(0, 1, 600, 0, 1);
-        CHECK.due("depth 0", x.depth(0, 0), true);
-        CHECK.due("can with depth 0", x.can(0, 0), 0);
-        CHECK.due("depth 500", x.depth(0, 500), true);
-        CHECK.due("can with depth 500", x.can(0, 0), 1);
-        CHECK.due("depth refused", x.depth(0, 501), false);
-        CHECK.due("can still", x.can(0, 0), 1);
-        CHECK.due("depth 499", x.depth(0, 499), true);
-        CHECK.due("can with depth 499", x.can(0, 0), 0);
-    }
-
-    private static void skippers() {
-        BargeBourse x = new BargeBourse();
-        for (int wrong : new int[] {0, 601, -1, MAX, MIN}) {
-            CHECK.due("hold " + wrong, x.skipper(wrong, 1, 1, 1), NONE);
-        }
-        for (int wrong : new int[] {0, 301, -1, MAX, MIN}) {
-            CHECK.due("empty " + wrong, x.skipper(1, wrong, 1, 1), NONE);
-        }
-        for (int wrong : new int[] {0, 21, -1, MAX, MIN}) {
-            CHECK.due("tons " + wrong, x.skipper(1, 1, wrong, 1), NONE);
-        }
-        for (int wrong : new int[] {0, 8, -1, MAX, MIN}) {
-            CHECK.due("kinds " + wrong, x.skipper(1, 1, 1, wrong), NONE);
-        }
-        CHECK.due("none is there", x.count(2), 0);
-        CHECK.due("the least", x.skipper(1, 1, 1, 1), 0);
-        CHECK.due("the most", x.skipper(600, 300, 20, 7), 1);
-        for (int s = 2; s < 16; s++) {
-            CHECK.due("like ones", x.skipper(10, 10, 10, 2), s);
-        }
-        CHECK.due("a seventeenth", x.skipper(10, 10, 10, 2), NONE);
-        CHECK.due("count(2)", x.count(2), 16);
-        CHECK.dueLook(x, 1, 0, NONE, NONE, 0, NONE, 0, 0, 0, NONE, 300);
-        CHECK.dueLook(x, 15, 0, NONE, NONE, 0, NONE, 0, 0, 0, NONE, 10);
-        CHECK.due("look(16, 0)", x.look(16, 0), NONE);
-    }
-
-    private static void wants() {
-        BargeBourse x = new BargeBourse();
-        CHECK.due("no skipper", x.wants(0, 0, 0), false);
-        x.skipper(10, 10, 10, 1);
-        for (int s : new int[] {-1, 1, 16, MAX, MIN}) {
-            CHECK.due("wants(" + s + ")", x.wants(s, 0, 0), false);
-        }
-        for (int wrong : new int[] {-1, 1001, MAX, MIN}) {
-            CHECK.due("pence " + wrong, x.wants(0, wrong, 0), false);
-        }
-        for (int wrong : new int[] {-1, 256, MAX, MIN}) {
-            CHECK.due("towns " + wrong, x.wants(0, 0, wrong), false);
-        }
-        CHECK.due("the most", x.wants(0, 1000, 255), true);
-        CHECK.due("the least", x.wants(0, 0, 0), true);
-    }
-
-    private static void cargoes() {
-        BargeBourse x = new BargeBourse();
-        CHECK.due("from = to", x.cargo(2, 2, 1, 0, 0), NONE);
-        CHECK.due("from -1", x.cargo(-1, 2, 1, 0, 0), NONE);
-        CHECK.due("from 8", x.cargo(8, 2, 1, 0, 0), NONE);
-        CHECK.due("to -1", x.cargo(2, -1, 1, 0, 0), NONE);
-        CHECK.due("to 8", x.cargo(2, 8, 1, 0, 0), NONE);
-        for (int wrong : new int[] {0, 601, -1, MAX, MIN}) {
-            CHECK.due("tons " + wrong, x.cargo(0, 1, wrong, 0, 0), NONE);
-        }
-        for (int wrong : new int[] {-1, 3, MAX, MIN}) {
-            CHECK.due("kind " + wrong, x.cargo(0, 1, 1, wrong, 0), NONE);
-        }
-        for (int wrong : new int[] {-1, 100001, MAX, MIN}) {
-            CHECK.due("pence " + wrong, x.cargo(0, 1, 1, 0, wrong), NONE);
-        }
-        CHECK.due("none is there", x.count(3), 0);
-        CHECK.due("the least", x.cargo(0, 7, 1, 0, 0), 0);
-        CHECK.due("the most", x.cargo(7, 0, 600, 2, 100000), 1);
-        for (int c = 2; c < 60; c++) {
-            CHECK.due("like ones", x.cargo(0, 1, 10, 1, 10), c);
-        }
-        CHECK.due("a sixty-first", x.cargo(0, 1, 10, 1, 10), NONE);
-        CHECK.due("count(3)", x.count(3), 60);
-        CHECK.due("count(4)", x.count(4), 60);
-        CHECK.dueTold(x, 59, 0, NONE, NONE, NONE, NONE);
-        CHECK.due("told(60, 0)", x.told(60, 0), NONE);
-        CHECK.due("told(-1, 0)", x.told(-1, 0), NONE);
-        CHECK.due("told(0, 5)", x.told(0, 5), NONE);
-        CHECK.due("told(0, -1)", x.told(0, -1), NONE);
     }
 
     private static void whoCan() {
@@ -246,5 +112,160 @@ public final class WatersTest {
         CHECK.due("way(0, 0, 0)", x.way(0, 0, 0), 0);
         CHECK.due("way(0, 2, 0)", x.way(0, 2, 0), NONE);
         CHECK.due("way(0, 1, 0)", x.way(0, 1, 0), 0);
+    }
+
+    private static BargeBourse withAll(int skippers, int cargoes) {
+        BargeBourse x = new BargeBourse();
+        x.canal(0, 1, 2, 100, 1);
+        for (int s = 0; s < skippers; s++) {
+            x.skipper(10, 10, 10, 1);
+        }
+        for (int c = 0; c < cargoes; c++) {
+            x.cargo(0, 1, 10, 0, 0);
+        }
+        return x;
+    }
+
+    private static void canOfSkippersAndCargoes() {
+        BargeBourse none = withAll(0, 0);
+        CHECK.due("no skipper, no cargo", none.can(0, 0), NONE);
+        CHECK.due("no cargo", withAll(1, 0).can(0, 0), NONE);
+        CHECK.due("no skipper", withAll(0, 1).can(0, 0), NONE);
+        CHECK.due("no skipper, no cargo", none.way(0, 0, 0), NONE);
+        CHECK.due("no cargo", withAll(1, 0).way(0, 0, 0), NONE);
+        CHECK.due("no skipper", withAll(0, 1).way(0, 0, 0), NONE);
+        BargeBourse some = withAll(3, 5);
+        CHECK.dueRange("can, skipper", 0, 2, 3, NONE, s -> some.can(s, 0));
+        CHECK.dueRange("can, cargo", 0, 4, 3, NONE, c -> some.can(0, c));
+        CHECK.dueRange("way, skipper", 0, 2, 0, NONE, s -> some.way(s, 0, 0));
+        CHECK.dueRange("way, cargo", 0, 4, 0, NONE, c -> some.way(0, c, 0));
+        CHECK.dueRange("way, place", 0, 0, 0, NONE, i -> some.way(0, 0, i));
+        BargeBourse full = withAll(16, 60);
+        CHECK.dueRange("can, skipper of 16", 0, 15, 3, NONE, s -> full.can(s, 59));
+        CHECK.dueRange("can, cargo of 60", 0, 59, 3, NONE, c -> full.can(15, c));
+        CHECK.dueRange("way, skipper of 16", 0, 15, 0, NONE, s -> full.way(s, 59, 0));
+        CHECK.dueRange("way, cargo of 60", 0, 59, 0, NONE, c -> full.way(15, c, 0));
+    }
+
+    private static void noWay() {
+        BargeBourse x = new BargeBourse();
+        x.skipper(600, 1, 20, 7);
+        x.cargo(0, 7, 1, 0, 0);
+        CHECK.dueWay(x, 0, 0, 0);
+        x.canal(0, 1, 1, 500, 0);
+        x.canal(7, 2, 1, 500, 0);
+        CHECK.dueWay(x, 0, 0, 0);
+        x.canal(1, 2, 1, 1, 0);
+        CHECK.dueWay(x, 0, 0, 0);
+        x.depth(2, 2);
+        CHECK.dueWay(x, 0, 0, 3, 0, 2, 1);
+        x.depth(0, 0);
+        CHECK.dueWay(x, 0, 0, 0);
+        CHECK.due("way(0, 0, max)", x.way(0, 0, MAX), NONE);
+        CHECK.due("way(0, 0, min)", x.way(0, 0, MIN), NONE);
+    }
+
+    private static void tonsNotAboveTheHold() {
+        for (int hold : new int[] {1, 2, 599, 600}) {
+            BargeBourse x = new BargeBourse();
+            x.canal(0, 1, 1, 500, 0);
+            x.skipper(hold, 1, 20, 1);
+            x.cargo(0, 1, 1, 0, 0);
+            x.cargo(0, 1, hold, 0, 0);
+            CHECK.due("hold " + hold + ", 1 ton", x.can(0, 0), 1);
+            CHECK.due("hold " + hold + ", as many tons", x.can(0, 1), 1);
+            if (hold < 600) {
+                x.cargo(0, 1, hold + 1, 0, 0);
+                CHECK.due("hold " + hold + ", a ton more", x.can(0, 2), 0);
+            }
+        }
+    }
+
+    private static void depthNotBelowTheDraught() {
+        BargeBourse x = new BargeBourse();
+        x.canal(0, 1, 1, 500, 0);
+        x.canal(1, 2, 1, 61, 0);
+        x.skipper(600, 50, 10, 1);
+        x.cargo(0, 2, 101, 0, 0);
+        CHECK.dueWay(x, 0, 0, 2, 0, 1);
+        x.depth(1, 60);
+        CHECK.dueWay(x, 0, 0, 0);
+        x.depth(1, 500);
+        x.depth(0, 61);
+        CHECK.dueWay(x, 0, 0, 2, 0, 1);
+        x.depth(0, 60);
+        CHECK.dueWay(x, 0, 0, 0);
+        x.skipper(600, 300, 1, 1);
+        x.cargo(0, 2, 200, 0, 0);
+        x.cargo(0, 2, 201, 0, 0);
+        x.depth(0, 500);
+        CHECK.dueWay(x, 1, 1, 2, 0, 1);
+        CHECK.dueWay(x, 1, 2, 0);
+    }
+
+    private static void placesOfTheShortestAndTheLongestWay() {
+        BargeBourse x = new BargeBourse();
+        for (int t = 0; t < 7; t++) {
+            x.canal(t, t + 1, 1, 100, 0);
+        }
+        x.skipper(10, 10, 10, 1);
+        x.cargo(0, 1, 10, 0, 0);
+        x.cargo(0, 7, 10, 0, 0);
+        CHECK.dueRange("the shortest way", 0, 0, 0, NONE, i -> x.way(0, 0, i));
+        for (int i : new int[] {-1, 7, MIN, MAX}) {
+            CHECK.due("the longest way, place " + i, x.way(0, 1, i), NONE);
+        }
+        CHECK.dueWay(x, 0, 1, 7, 0, 1, 2, 3, 4, 5, 6);
+    }
+
+    private static void likeWays() {
+        BargeBourse x = new BargeBourse();
+        x.skipper(10, 10, 10, 1);
+        x.cargo(0, 3, 10, 0, 0);
+        x.canal(0, 1, 1, 100, 0);
+        x.canal(1, 2, 1, 100, 0);
+        x.canal(2, 3, 1, 100, 0);
+        CHECK.dueWay(x, 0, 0, 3, 0, 1, 2);
+        x.canal(1, 3, 1, 100, 1);
+        CHECK.dueWay(x, 0, 0, 3, 0, 3);
+        x.canal(3, 1, 2, 100, 0);
+        CHECK.dueWay(x, 0, 0, 3, 0, 3);
+        x.canal(0, 3, 3, 100, 1);
+        CHECK.dueWay(x, 0, 0, 3, 0, 3);
+        x.canal(0, 3, 1, 100, 2);
+        CHECK.dueWay(x, 0, 0, 3, 6);
+        x.canal(3, 0, 3, 100, 0);
+        CHECK.dueWay(x, 0, 0, 3, 6);
+        x.depth(6, 10);
+        CHECK.dueWay(x, 0, 0, 3, 7);
+        x.canal(3, 0, 2, 100, 0);
+        CHECK.dueWay(x, 0, 0, 2, 8);
+    }
+
+    private static void whereverTheSkipperIs() {
+        BargeBourse x = Busy.make();
+        for (int s = 0; s < Busy.SKIPPERS; s++) {
+            CHECK.dueWay(x, s, 0, 1, 0);
+            CHECK.dueWay(x, s, 2, 60, 1);
+            CHECK.dueWay(x, s, 3, 0);
+            CHECK.dueWay(x, s, 4, 2, 3);
+        }
+        x.step(55);
+        CHECK.due("the cargo is brought", x.told(0, 0), 2);
+        CHECK.dueWay(x, 6, 0, 1, 0);
+    }
+
+    private static void fullWaters() {
+        BargeBourse x = new BargeBourse();
+        x.skipper(10, 10, 10, 1);
+        x.cargo(0, 7, 10, 0, 0);
+        for (int c = 0; c < 11; c++) {
+            x.canal(c % 7, (c + 1) % 7, 1, 100, 0);
+        }
+        CHECK.dueWay(x, 0, 0, 0);
+        x.canal(7, 6, 48, 100, 12);
+        CHECK.dueWay(x, 0, 0, 61, 6, 11);
+        x.depth(6, 10);
+        CHECK.dueWay(x, 0, 0, 66, 0, 1, 2, 3, 4, 5, 11);
     }
 }
