@@ -4,6 +4,7 @@ import java.lang.reflect.Method;
 import java.lang.reflect.Modifier;
 import java.nio.file.Files;
 import java.nio.file.Path;
+import java.util.ArrayList;
 import java.util.Arrays;
 import java.util.List;
 import java.util.Random;
@@ -25,7 +26,10 @@ public final class FaceTest {
 
     public static void main(String[] args) throws IOException, ReflectiveOperationException {
         face();
-        language(Files.readString(Path.of("src/main/java/BargeBourse.java")));
+        classesInside();
+        String source = Files.readString(Path.of("src/main/java/BargeBourse.java"));
+        language(source);
+        lengths(source);
         anyNumbers();
         CHECK.end();
     }
@@ -63,6 +67,44 @@ public final class FaceTest {
         CHECK.due("NONE", BargeBourse.class.getField("NONE").getInt(null), -1);
         CHECK.due("one constructor", BargeBourse.class.getConstructors().length, 1);
         CHECK.due("final", Modifier.isFinal(BargeBourse.class.getModifiers()), true);
+    }
+
+    /** What LANGUAGE.md says of static fields, and how many classes, fields and parameters it allows. */
+    private static void classesInside() {
+        List<Class<?>> classes = new ArrayList<>(List.of(BargeBourse.class.getDeclaredClasses()));
+        classes.add(BargeBourse.class);
+        CHECK.due("at most twelve classes, not " + classes.size(), classes.size() <= 12, true);
+        Set<Class<?>> constants = Set.of(int.class, long.class, boolean.class, char.class, String.class,
+                int[].class, long[].class, char[].class, byte[].class);
+        for (Class<?> c : classes) {
+            int fields = 0;
+            for (Field f : c.getDeclaredFields()) {
+                boolean constant = Modifier.isStatic(f.getModifiers());
+                fields += constant ? 0 : 1;
+                CHECK.due(f + " is final", constant && !Modifier.isFinal(f.getModifiers()), false);
+                CHECK.due(f + " is a constant", constant && !constants.contains(f.getType()), false);
+            }
+            CHECK.due(c + " has at most twenty fields, not " + fields, fields <= 20, true);
+            for (Method m : c.getDeclaredMethods()) {
+                CHECK.due(m + " has at most seven parameters", m.getParameterCount() <= 7, true);
+            }
+        }
+    }
+
+    /** A method ends at the first brace that stands as far in as its first line. */
+    private static void lengths(String source) {
+        String[] lines = source.split("\n");
+        for (int from = 0; from < lines.length; from++) {
+            Matcher head = Pattern.compile("^((?: {4})+)[A-Za-z][^=;]*\\) \\{$").matcher(lines[from]);
+            if (!head.find() || lines[from].trim().matches("(if|for|while|switch|else|do)\\b.*")) {
+                continue;
+            }
+            int end = from;
+            while (end < lines.length - 1 && !lines[end].equals(head.group(1) + "}")) {
+                end++;
+            }
+            CHECK.due("line " + (from + 1) + ": at most sixty lines", end - from <= 60, true);
+        }
     }
 
     private static void language(String source) {
